@@ -48,6 +48,14 @@ final class Due {
         ship.end(text.length());
     }
 
+    static void bytes(WhaleLays ship, int... bytes) {
+        StringBuilder text = new StringBuilder();
+        for (int one : bytes) {
+            text.append((char) one);
+        }
+        text(ship, text.toString());
+    }
+
     private static int four(byte[] bytes, int from) {
         int four = 0;
         for (int i = 0; i < 4; i++) {
