@@ -7,6 +7,7 @@ public final class ImagesTest {
         keepsAll();
         keepsNotThese();
         laws();
+        fullShip();
         DUE.close();
     }
 
@@ -127,5 +128,38 @@ public final class ImagesTest {
             DUE.is("room for five more", Due.law(x, "casks 4"), i + 1);
         }
         DUE.is("no room", Due.law(x, "casks 4"), -5);
+    }
+
+    /** The last of all that there is room for is kept, too. */
+    private static void fullShip() {
+        WhaleLays x = new WhaleLays();
+        for (int hand = 0; hand < 8; hand++) {
+            x.sign(10 + hand, 0);
+        }
+        for (int ground = 0; ground < 4; ground++) {
+            x.ground(50 + ground, 1, 2, 3 + ground);
+        }
+        for (int law = 0; law < 6; law++) {
+            Due.rule(x, "casks " + (30 + law));
+        }
+        for (int i = 0; i < 8; i++) {
+            x.word(7, 30);
+        }
+        int oils = x.barrels(0);
+        x.image(0);
+        x.forget();
+        for (int i = 0; i < 8; i++) {
+            x.word(0, i);
+        }
+        x.hunt(3, 3);
+        x.force(0);
+        x.back(0);
+        DUE.is("the last law", x.at(3, 4), 35);
+        DUE.is("the last ground's whales", x.at(3, 0), 53);
+        DUE.is("the last ground's odds", x.at(3, 3), 6);
+        DUE.is("the last hand's lay", x.of(7, 0), 17);
+        DUE.is("the last hand's debt", x.of(7, 1), 0);
+        DUE.is("the last words", x.barrels(0), oils);
+        DUE.is("so many", oils, 2);
     }
 }

@@ -57,6 +57,11 @@ public final class WordsTest {
         x.word(1, 1);
         DUE.is("or none", x.barrels(0), 0);
         x.forget();
+        x.price(0, 1);
+        x.word(1, 2);
+        DUE.is("a price of 1: 80 .. 119", x.barrels(0), 40);
+        DUE.is("greatest", x.barrels(2), 119);
+        x.forget();
         x.price(0, 10);
         x.ground(9, 0, 0, 0);
         x.hunt(0, 2);
