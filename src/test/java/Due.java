@@ -1,8 +1,10 @@
+import java.util.function.IntSupplier;
 import java.util.function.LongSupplier;
 
 /** Collects answers that are not the ones that are due. A test calls close() last. */
 final class Due {
     private final String test;
+    private String sentence = "";
     private int asked;
     private int wrong;
 
@@ -10,16 +12,40 @@ final class Due {
         this.test = test;
     }
 
+    /** The document's sentence that what is asked next is held against; told with a wrong answer. */
+    void says(String words) {
+        sentence = "\"" + words + "\": ";
+    }
+
     void is(String call, long got, long want) {
         asked++;
         if (got != want) {
             wrong++;
-            System.out.println(test + ": " + call + " answered " + got + ", due is " + want);
+            System.out.println(test + ": " + sentence + call + " answered " + got + ", due is " + want);
         }
     }
 
     void that(String what, boolean so) {
         is(what, so ? 1 : 0, 1);
+    }
+
+    void same(String what, String got, String want) {
+        asked++;
+        if (!got.equals(want)) {
+            wrong++;
+            System.out.println(test + ": " + sentence + what + ": " + got + ", due is " + want);
+        }
+    }
+
+    /** A call that is REFUSED: told by its answer, by status() and by count(), and nothing else changes. */
+    void refused(WhaleLays ship, String call, int by, IntSupplier ask) {
+        int which = by > -4 ? 6 - by : 5 - by;
+        String before = Seen.of(ship);
+        int times = ship.count(which);
+        is(call, ask.getAsInt(), by);
+        is(call + ", then status()", ship.status(), by);
+        is(call + ", then count(" + which + ")", ship.count(which), times + 1);
+        same(call + " changes nothing", Seen.of(ship), before);
     }
 
     /** Several calls that are due the same answer. */
