@@ -31,6 +31,7 @@ public final class ActBoundsTest {
         leave();
         undoKinds();
         undoSixteen();
+        undoBehindRefused();
         undoWrapsAround();
         undoBarriers();
         undoNoBarriers();
@@ -517,6 +518,27 @@ public final class ActBoundsTest {
             DUE.refused(x, "no more of " + acts, -3, () -> x.undo());
             DUE.is("OIL", x.count(13), 60 - acts + kept);
         }
+    }
+
+    private static void undoBehindRefused() {
+        DUE.says("16 are kept: what was REFUSED is none of them");
+        WhaleLays x = ship();
+        String before = Seen.of(x);
+        x.hunt(0, 3);
+        for (int i = 0; i < 14; i++) {
+            x.sell(1);
+        }
+        x.leave(1);
+        DUE.all("REFUSED", -1, () -> x.hunt(0, 4), () -> x.sell(0), () -> x.advance(0, 0));
+        DUE.all("REFUSED", -2, () -> x.hunt(9, 0), () -> x.advance(9, 1), () -> x.leave(9));
+        DUE.all("REFUSED", -3, () -> x.sell(999), () -> x.advance(0, 9999), () -> x.leave(1), () -> Due.orders(x, "sell 1; leave 1"));
+        DUE.is("16 are kept", x.count(5), 16);
+        DUE.is("undo()", x.undo(), 3);
+        for (int i = 0; i < 14; i++) {
+            DUE.is("undo()", x.undo(), 1);
+        }
+        DUE.is("the oldest one", x.undo(), 0);
+        DUE.same("all is as it was", Seen.of(x), before);
     }
 
     /** Kept and undone by turns, so that what is kept goes round the log more than once. */

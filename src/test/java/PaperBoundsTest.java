@@ -25,6 +25,8 @@ public final class PaperBoundsTest {
         bestAsMuchAsItTakes();
         bestLawsAsNow();
         bestCut();
+        bestCutByAllOdds();
+        bestOfFour();
         bestWaits();
         oddsOfNone();
         oddsNoMonth();
@@ -32,6 +34,7 @@ public final class PaperBoundsTest {
         oddsBeyondHold();
         oddsAsMuchAsItTakes();
         oddsCut();
+        oddsCutAtHold();
         oddsSureAndNever();
         leftOfNone();
         leftRounds();
@@ -301,6 +304,38 @@ public final class PaperBoundsTest {
         DUE.is("cut once alone it were 986,158", due, 986157L);
     }
 
+    /** By all ODDS of one whale: whatever is left over when a sum is cut. */
+    private static void bestCutByAllOdds() {
+        DUE.says("each average cut");
+        for (int one = 0; one <= 10; one++) {
+            for (int two = 0; one + two <= 10; two++) {
+                WhaleLays x = ship(1);
+                x.ground(9, one, two, 0);
+                x.price(0, 7);
+                Due.rule(x, "casks 1");
+                x.terms(1, 3);
+                long[] most = {0, 7 * MILLION, 14 * MILLION, 21 * MILLION};
+                for (int n = 1; n <= 9; n++) {
+                    for (int oil = 0; oil <= 3; oil++) {
+                        long tenfold = (10 - one - two) * most[oil] + one * most[Math.min(3, oil + 1)] + two * most[Math.min(3, oil + 2)];
+                        most[oil] = Math.max(7 * MILLION * oil, tenfold / 10);
+                    }
+                    DUE.is("ODDS " + one + " " + two + ": best(" + n + ", 0)", x.best(n, 0), most[0]);
+                }
+            }
+        }
+    }
+
+    private static void bestOfFour() {
+        DUE.says("or HUNTS in a GROUND: GROUNDS 0 .. 3");
+        WhaleLays x = ship(1);
+        for (int ground = 0; ground < 4; ground++) {
+            x.ground(9, ground * 2 + 1, 0, 0);
+        }
+        DUE.is("the last of four", x.best(12, 1), 3);
+        DUE.is("two MONTHS", x.best(2, 0), 280 * MILLION);
+    }
+
     /** Ahead of each MONTH it may go home, with what it has then. */
     private static void bestWaits() {
         DUE.says("ahead of each MONTH it goes home, or HUNTS");
@@ -431,6 +466,34 @@ public final class PaperBoundsTest {
         DUE.is("72 whales: one part of ten, 24 times, cut to none", x.odds(0, 24, 72), 0);
         DUE.is("12 MONTHS of three: one part", x.odds(0, 12, 36), 1);
         DUE.is("13 MONTHS of three: none", x.odds(0, 13, 39), 0);
+    }
+
+    /** Each part that goes beyond HOLD comes to what is there by itself. */
+    private static void oddsCutAtHold() {
+        DUE.says("each part is cut; CASKS beyond HOLD are lost");
+        int[] holds = {1, 2, 5, 6, 7, 20};
+        for (int hold : holds) {
+            for (int had = 0; had <= 2; had += 2) {
+                WhaleLays x = ship(1);
+                x.ground(9, 1, 2, 1);
+                Due.rule(x, "casks 2");
+                x.terms(1, hold);
+                x.hunt(0, had / 2);
+                long[] chances = new long[hold + 1];
+                chances[Math.min(hold, had)] = ALL;
+                for (int n = 1; n <= 24; n++) {
+                    long[] next = new long[hold + 1];
+                    int[] odds = {6, 1, 2, 1};
+                    for (int oil = 0; oil <= hold; oil++) {
+                        for (int taken = 0; taken <= 3; taken++) {
+                            next[Math.min(hold, oil + 2 * taken)] += chances[oil] * odds[taken] / 10;
+                        }
+                    }
+                    chances = next;
+                    DUE.is("HOLD " + hold + ", OIL " + had + ", n " + n, x.odds(0, n, hold), chances[hold]);
+                }
+            }
+        }
     }
 
     private static void oddsSureAndNever() {
@@ -677,6 +740,17 @@ public final class PaperBoundsTest {
         x.forget();
         x.word(0, 1);
         DUE.is("for nothing: none", x.barrels(0), 0);
+        WhaleLays paid = ship(1, 200, 201);
+        paid.ground(9, 0, 0, 0);
+        paid.hunt(0, 1);
+        paid.sell(20);
+        paid.price(0, 0);
+        int[][] told = {{0, 199, 0}, {0, 200, 201}, {0, 201, 0}, {1, 0, 0}, {1, 1, 201}, {1, 2, 0}, {2, 0, 201}, {2, 1, 0}};
+        for (int[] t : told) {
+            paid.word(t[0], t[1]);
+            DUE.is("for nothing, 200 in the PURSE, HAND " + t[0] + " told " + t[1], paid.barrels(0), t[2]);
+            paid.forget();
+        }
         x.price(0, 99);
         // 100 .. 199 pence: OIL 2 gives 198
         DUE.is("for 99: one", x.barrels(0), 1);

@@ -26,6 +26,7 @@ public final class TextBoundsTest {
         parts50();
         brackets8();
         numbers();
+        comparisons();
         billions();
         dividedBy0();
         cutTowards0();
@@ -33,6 +34,7 @@ public final class TextBoundsTest {
         casksNearest();
         eatsNearest();
         holds();
+        wordsOfLaws();
         laws6();
         lawRefused();
         force();
@@ -46,6 +48,7 @@ public final class TextBoundsTest {
         ordersEmpty();
         ordersToTheEnd();
         ordersWholly();
+        ordersAnew();
         undoneInOrders();
         stopped();
         DUE.close();
@@ -116,6 +119,18 @@ public final class TextBoundsTest {
         DUE.is("the first bytes alone stayed", x.at(0, 0), 1);
         DUE.is("what came then stands behind them", x.at(1, 0), 3);
         DUE.is("status()", x.status(), 0);
+        DUE.says("The TAPE has its first n bytes alone");
+        WhaleLays y = new WhaleLays();
+        String[] cut = {"casks oilx", "casks 9990", "casks 1 +", "casks 1 if", "casks 1;casks 2"};
+        int[] at = {9, 8, 7, 8, 7};
+        for (int i = 0; i < cut.length; i++) {
+            y.image(0);
+            Due.text(y, cut[i]);
+            y.end(at[i]);
+            DUE.is("law: " + cut[i] + " up to " + at[i], y.law(), 0);
+            DUE.is("fault: " + cut[i] + " up to " + at[i], y.fault(), -1);
+            y.back(0);
+        }
     }
 
     private static void rowEmpty() {
@@ -258,6 +273,15 @@ public final class TextBoundsTest {
         fault("casks oilL", 9);
         fault("casks a", 6);
         fault("casks z", 6);
+        fault("casks oila", 6);
+        fault("casks oilz", 6);
+        fault("casks oil`", 9);
+        fault("casks oil{", 9);
+        fault("casks oilA", 9);
+        fault("casks oil0", 9);
+        fault("casks 10/", 9);
+        fault("casks 10:", 8);
+        fault("casks 10oil", 8);
         fault("deserts if1=1", -1);
         fault("desertsif 1=1", 0);
         fault("casks 1 0", 8);
@@ -299,6 +323,8 @@ public final class TextBoundsTest {
         fault("casks [1", 8);
         fault("casks [1 ", 9);
         fault("casks 1 if", 10);
+        fault("deserts if 1", 12);
+        fault("deserts if 1 ", 13);
         fault("deserts if (1 = 1", 17);
         fault("deserts if not ", 15);
         fault("deserts if 1 = 1 and ", 21);
@@ -310,6 +336,8 @@ public final class TextBoundsTest {
         orders("sell debt ", 10);
         orders("sell whales", 11);
         orders("sell 1; ", 8);
+        orders("sell 1 if 1", 11);
+        orders("sell 1 if 1 <", 13);
     }
 
     private static void textOf400() {
@@ -330,6 +358,12 @@ public final class TextBoundsTest {
         fault(";".repeat(400), 0);
         orders(" ".repeat(394) + "sell 1", -1);
         orders(" ".repeat(396) + "sell", 400);
+        // as many TOKENS as there can be: none but the first is longer than a byte
+        String most = "sell[[[[[[[[1]]]]]]]]" + "+[[[[[[[[1]]]]]]]]".repeat(21);
+        orders(most, -1);
+        orders(most + " ", -1);
+        orders(most + "]", 399);
+        orders(most + ";", 400);
     }
 
     private static void clauses12() {
@@ -369,6 +403,20 @@ public final class TextBoundsTest {
         fault("casks [oil]" + "+[1]".repeat(50), 11 + 4 * 49 + 2);
         fault("deserts if oil=1" + " or 1=1".repeat(24), -1);
         fault("deserts if oil=1" + " or 1=1".repeat(24) + " or 1=1", 16 + 7 * 24 + 4);
+        DUE.says("50 PARTS: of each TEXT anew");
+        WhaleLays x = sailed();
+        for (int i = 0; i < 5; i++) {
+            DUE.is("law " + i, Due.law(x, fifty), i);
+            DUE.is("a FAULT between", Due.orders(x, "sell 1" + "+1".repeat(49) + "+?"), -6);
+            DUE.is("fault()", x.fault(), 105);
+            DUE.is("orders " + i, Due.orders(x, "sell 1" + "-0".repeat(48) + "*1"), 1);
+        }
+        DUE.is("OIL", x.count(13), 55);
+        x.force(4);
+        DUE.is("55 + 49, the nearest", x.at(0, 4), 99);
+        x.force(0);
+        x.sell(20);
+        DUE.is("35 + 49", x.at(0, 4), 84);
     }
 
     private static void brackets8() {
@@ -390,6 +438,13 @@ public final class TextBoundsTest {
         fault("casks [[[[1]]]] if ((((((((1=1))))))))", -1);
         orders("sell [[[[[[[[1]]]]]]]] if ((((((((1=1))))))))", -1);
         orders("sell [[[[[[[[[1]]]]]]]]]", 13);
+        DUE.says("8 brackets: of each TEXT anew");
+        WhaleLays x = new WhaleLays();
+        DUE.is("a FAULT within eight", Due.law(x, "casks [[[[[[[[?"), -6);
+        DUE.is("a FAULT at the ninth", Due.law(x, "casks [[[[[[[[["), -6);
+        DUE.is("eight", Due.law(x, "casks [[[[[[[[1]]]]]]]]"), 0);
+        DUE.is("nine", Due.law(x, "casks [[[[[[[[[1]]]]]]]]]"), -6);
+        DUE.is("fault()", x.fault(), 14);
     }
 
     private static void numbers() {
@@ -426,6 +481,24 @@ public final class TextBoundsTest {
         DUE.is("if " + test, x.of(0, 5), due == 1 ? 1 : 0);
         Due.rule(x, "deserts if not (" + test + ")");
         DUE.is("if not (" + test + ")", x.of(0, 5), due == 0 ? 1 : 0);
+    }
+
+    private static void comparisons() {
+        DUE.says("PLAIN: \"not\" PLAIN | \"(\" TEST \")\" | SUM (\"<\" | \">\" | \"=\") SUM");
+        String[] signs = {"<", ">", "="};
+        int[][] due = {{1, 0, 0}, {0, 0, 1}, {0, 1, 0}};
+        for (int i = 0; i < signs.length; i++) {
+            test("6 " + signs[i] + " 7", due[i][0]);
+            test("7 " + signs[i] + " 7", due[i][1]);
+            test("8 " + signs[i] + " 7", due[i][2]);
+            test("0-1 " + signs[i] + " 0", due[i][0]);
+            test("0 " + signs[i] + " 0-1", due[i][2]);
+            test("not 7 " + signs[i] + " 7", 1 - due[i][1]);
+            test("not not 7 " + signs[i] + " 7", due[i][1]);
+        }
+        test("0 = 0-0", 1);
+        test("1000*1000*1000 = 1000*1000*1000", 1);
+        test("0-1000*1000*1000 < 1000*1000*1000", 1);
     }
 
     private static void billions() {
@@ -575,6 +648,65 @@ public final class TextBoundsTest {
         DUE.is("a BROKEN \"if\"", x.of(0, 5), 0);
         Due.rule(x, "deserts if 1/0=1; deserts if 1=1; deserts if 1/0=1");
         DUE.is("one that HOLDS between BROKEN ones", x.of(0, 5), 1);
+    }
+
+    /** What "casks", "eats", "deserts" are asked of, one behind the other: nothing of one is left for the next. */
+    private static void wordsOfLaws() {
+        DUE.says("\"casks\" is asked of a GROUND (hand, lay, debt, served -1), \"eats\", \"deserts\" of a HAND (ground, whales -1)");
+        WhaleLays x = new WhaleLays();
+        x.terms(0, 9);
+        x.sign(999, 30);
+        x.sign(1, 40);
+        x.ground(0, 0, 0, 0);
+        x.ground(99, 0, 0, 0);
+        x.terms(0, 4);
+        x.terms(2, 9);
+        x.hunt(1, 1);
+        x.leave(0);
+        String[] words = {"hand", "lay", "debt", "served", "ground", "whales", "oil", "crew", "month", "mood"};
+        int[] ofHand = {1, 1, 45, -4, -1, -1, 20, 1, 5, 9};
+        int[] ofGround = {-1, -1, -1, -1, 1, 98, 20, 1, 5, 9};
+        for (int i = 0; i < words.length; i++) {
+            x.image(0);
+            Due.rule(x, "casks 40 + " + words[i] + "; eats 40 + " + words[i] + "; deserts if 40 + " + words[i] + " = " + (40 + ofHand[i]));
+            for (int round = 0; round < 2; round++) {
+                DUE.is("eats by " + words[i], x.of(1, 4), 40 + ofHand[i]);
+                DUE.is("casks by " + words[i], x.at(1, 4), Math.min(99, 40 + ofGround[i]));
+                DUE.is("deserts by " + words[i], x.of(1, 5), 1);
+            }
+            x.back(0);
+        }
+        DUE.says("served: MONTH less JOINED");
+        Due.rule(x, "eats 50 + served");
+        int[] months = {0, 8, 9, 10, 71};
+        for (int month : months) {
+            x.terms(0, month);
+            DUE.is("at MONTH " + month, x.of(1, 4), Math.min(99, 50 + month - 9));
+        }
+        DUE.says("oil: OIL, crew: how many are ABOARD, as they are when it is asked");
+        WhaleLays y = sailed();
+        Due.rule(y, "eats oil - 57 + month * 10 + crew * 20 + mood");
+        DUE.is("at first", y.of(0, 4), 53);
+        y.sell(1);
+        DUE.is("OIL one less", y.of(0, 4), 52);
+        y.leave(1);
+        DUE.is("one ABOARD less", y.of(0, 4), 32);
+        y.terms(0, 2);
+        DUE.is("the next MONTH", y.of(0, 4), 42);
+        y.terms(2, 9);
+        DUE.is("MOOD 9", y.of(0, 4), 51);
+        y.leave(0);
+        DUE.is("nobody ABOARD", y.of(0, 4), 31);
+        Due.rule(y, "casks 10 + crew + oil; deserts if crew = 0 and oil = 59");
+        DUE.is("casks, nobody ABOARD", y.at(0, 4), 69);
+        DUE.is("deserts, nobody ABOARD", y.of(1, 5), 1);
+        DUE.says("mood: MOOD 0 .. 9");
+        Due.rule(x, "deserts if mood = 9; casks 50 if mood = 0");
+        DUE.is("MOOD 9", x.of(1, 5), 1);
+        DUE.is("MOOD 9", x.at(0, 4), 20);
+        x.terms(2, 0);
+        DUE.is("MOOD 0", x.of(1, 5), 0);
+        DUE.is("MOOD 0", x.at(0, 4), 50);
     }
 
     private static void laws6() {
@@ -849,6 +981,20 @@ public final class TextBoundsTest {
         stop("leave 0; leave 1; leave 1", 2);
         stop("sell 1" + ";sell 1".repeat(10) + ";leave 9", 11);
         stop("sell 1 times 20; hunt 0 for 3 times 20; leave 1; sell oil; advance 0 by purse; leave 9 times 20", 5);
+    }
+
+    /** A TEXT behind another one: nothing of the first is left. */
+    private static void ordersAnew() {
+        DUE.says("ORDERS: each TEXT by itself");
+        WhaleLays x = sailed();
+        DUE.is("a BROKEN SUM that is not asked", Due.orders(x, "hunt 0 for 1/0 times 20 if 1=2"), 0);
+        DUE.is("sell", Due.orders(x, "sell 1"), 1);
+        DUE.is("one that can't be", Due.orders(x, "advance 0 by 1/0"), -3);
+        DUE.is("sell", Due.orders(x, "sell 1"), 1);
+        DUE.is("leave", Due.orders(x, "leave 0"), 1);
+        DUE.is("a FAULT behind a CLAUSE with all", Due.orders(x, "hunt 1 for 3 times 20 if 1=1; ?"), -6);
+        DUE.is("sell, once", Due.orders(x, "sell 1"), 1);
+        DUE.is("OIL", x.count(13), 57);
     }
 
     private static void undoneInOrders() {

@@ -25,6 +25,7 @@ public final class YearBoundsTest {
         drawnOfTheLatest();
         images();
         imagesKeepAll();
+        imagesOfTwo();
         imagesDoNotKeep();
         imagesStay();
         imagesApart();
@@ -108,6 +109,12 @@ public final class YearBoundsTest {
             DUE.is("WHALES", x.drawn(0, 2), 99 - Math.min(60, 71 - month));
         }
         DUE.is("from MONTH 71 that is no refusal", x.status(), 0);
+        Due.rule(x, "deserts if hand + 1 = crew");
+        DUE.is("at MONTH 71 nobody is asked any more", x.years(5, 60), 0);
+        x.terms(0, 70);
+        DUE.is("from MONTH 70 on once", x.years(5, 60), 1);
+        x.terms(0, 69);
+        DUE.is("from MONTH 69 on twice", x.years(5, 60), 2);
     }
 
     private static void asLongAsSomebodyIsAboard() {
@@ -382,6 +389,56 @@ public final class YearBoundsTest {
         DUE.is("no room for a GROUND", full.ground(1, 0, 0, 0), -5);
         DUE.is("no room for a LAW", Due.law(full, "casks 1"), -5);
         DUE.is("no room for a WORD", full.word(0, 0), -5);
+    }
+
+    /** BACK and forth between two that have all otherwise. */
+    private static void imagesOfTwo() {
+        DUE.says("BACK to one all that it keeps is as it was then");
+        WhaleLays x = new WhaleLays();
+        x.image(0);
+        fill(x);
+        // so that nothing can be undone, as behind back()
+        x.terms(2, 8);
+        x.image(1);
+        String all = Seen.of(x);
+        x.back(0);
+        x.terms(0, 33);
+        x.terms(1, 777);
+        for (int hand = 0; hand < 8; hand++) {
+            x.sign(1 + hand, hand);
+        }
+        for (int ground = 0; ground < 4; ground++) {
+            x.ground(ground, 0, 2 + ground, 0);
+        }
+        for (int law = 0; law < 6; law++) {
+            Due.rule(x, "casks 1; eats 99; deserts if crew = 1");
+        }
+        for (int year = 0; year < 6; year++) {
+            x.price(year, 1 + year);
+        }
+        for (int i = 0; i < 8; i++) {
+            x.word(i, 1);
+        }
+        x.hunt(3, 3);
+        x.leave(7);
+        x.force(2);
+        x.terms(2, 7);
+        String other = Seen.of(x);
+        x.image(0);
+        for (int i = 0; i < 2; i++) {
+            x.back(1);
+            DUE.same("to the one", Seen.of(x), all);
+            x.back(0);
+            DUE.same("to the other", Seen.of(x), other);
+        }
+        for (int law = 0; law < 6; law++) {
+            x.back(1);
+            x.force(law);
+            DUE.is("LAW " + law + " of the one", x.at(0, 4), 90 + law);
+            x.back(0);
+            x.force(law);
+            DUE.is("LAW " + law + " of the other", x.at(0, 4), 1);
+        }
     }
 
     private static void fill(WhaleLays x) {
